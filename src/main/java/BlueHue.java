@@ -796,7 +796,7 @@ public final class BlueHue {
         void make(int row, int itsLane, int n) {
             lane[row] = itsLane;
             size[row] = n;
-            for (int i = 0; i < ITEMS; i++) {
+            for (int i = 0; i < n; i++) {
                 items[row][i] = 0;
             }
         }
@@ -910,17 +910,12 @@ public final class BlueHue {
         final int[] from = new int[MOST];
         final int[] span = new int[MOST];
 
+        /** Ahead of a text; all else is told anew by its law and its wishers. */
         void clear() {
-            places = 0;
-            hold = 0;
-            tires = 0;
             roads = 0;
             wishers = 0;
-            for (int i = 0; i < MOST; i++) {
-                roadsFrom[i] = 0;
-                home[i] = 0;
-                from[i] = 0;
-                span[i] = 0;
+            for (int place = 0; place < MOST; place++) {
+                roadsFrom[place] = 0;
             }
         }
 

@@ -354,6 +354,7 @@ public final class PromisesTest {
         tell(halves, STILL);
         due("halved anew", halves.count(7), 0);
         due("roads anew", halves.place(0, 2), 0);
+        due("no roads", halves.count(2), 0);
         due("far anew", halves.far(0, 1), 9);
     }
 
@@ -462,6 +463,13 @@ public final class PromisesTest {
         x = told("c3,0,0,0;r0,1;r0,2;k1,1,20,0,6;k2,2,20,0,6;k0,0,40,0,6;");
         due("a greater wish is not halved", x.hours(1), 0);
         due("not halved", x.count(7), 0);
+        x = told("c4,0,0,0;k1,1,30,0,6;k2,2,30,0,6;k3,3,40,0,6;");
+        due("two alike, and a greater behind them", x.hours(1), 3);
+        x = told("c4,0,0,0;k1,1,40,0,6;k2,2,30,0,6;k3,3,30,0,6;");
+        due("a greater, and two alike behind it", x.hours(1), 1);
+        x = told("c4,0,0,0;k1,1,30,0,6;k2,2,20,0,6;k3,3,30,0,6;");
+        due("two alike about a lesser", x.hours(1), 0);
+        due("halved about a lesser", x.count(7), 1);
         x = told("c6,0,0,3;t0,1,9,0,6;w0,1,9,0,6;k0,0,0,0,6;b0,0,5,0,1;a0,0,5,3,1;");
         x.hours(1);
         due("a wish of 0 tires", x.wisher(0, 3), 3);
@@ -733,6 +741,9 @@ public final class PromisesTest {
         due("back by one", x.fewest(0, 1, 1), 2);
         x = told("c2,0,20,0;k0,1,12,0,6;k0,1,12,0,6;k0,1,12,0,6;k0,1,12,0,6;");
         due("all four", x.fewest(1, 1, 1), 15);
+        x = told("c2,0,20,0;k0,1,7,0,6;k0,1,7,0,6;k0,1,7,0,6;k0,1,7,0,6;k0,1,7,0,6;k0,1,7,0,6;");
+        due("all six", x.fewest(1, 1, 0), 6);
+        due("which six", x.fewest(1, 1, 1), 63);
     }
 
     private static void promise20() {
@@ -866,7 +877,7 @@ public final class PromisesTest {
         x.hours(4);
         due("tired", x.wisher(0, 3), 20);
         due("it went", x.count(5), 1);
-        x.wish(0, 0, 12);
+        x.wish(0, 0, 9);
         fill(x, 0, 0, 0, 0);
         due("who is not tired", x.who(0, 0, 0, 1), 1 << 2 | 1 << 5);
         due("tired yet", x.wisher(0, 3), 20);
@@ -1105,24 +1116,24 @@ public final class PromisesTest {
         BlueHue x = new BlueHue();
         due("nobody", x.ask(0, 0), BAD);
         // Each is its number, STRENGTH 20 + number, and TIRED 5 behind an HOUR.
-        x = told("c2,0,20,5;k0,0,7,0,6;a0,0,21,0,6;w0,0,22,0,6;t0,0,23,0,6;k0,0,24,0,6;b0,0,25,0,6;");
+        x = told("c2,0,20,5;k0,0,7,0,6;a0,0,21,0,6;t0,0,22,0,6;w0,0,23,0,6;k0,0,24,0,6;b0,0,25,0,6;");
         x.hours(1);
         due("size of grown", x.ask(1, 0), 21 + 1 + 5);
         dueTrace("size of grown", x, 11, 10, 21, 20);
-        due("size of widow", x.ask(2, 0), -(22 + 2 * 2));
-        dueTrace("size of widow", x, 12, 11, 10, 24, 21, 20);
-        due("size of thief", x.ask(3, 0), 23 + 3 + 5 - 1000);
+        due("size of thief", x.ask(2, 0), 22 + 2 + 5 - 1000);
         dueTrace("size of thief", x, 11, 10, 22, 21, 20);
+        due("size of widow", x.ask(3, 0), -(23 + 2 * 3));
+        dueTrace("size of widow", x, 12, 11, 10, 24, 21, 20);
         due("size of child", x.ask(4, 0), 24 - 100);
         dueTrace("size of child", x, 13, 10);
         due("size of bureau", x.ask(5, 0), 2 * (25 - 100));
         dueTrace("size of bureau", x, 14, 13, 10);
         due("mark of grown", x.ask(1, 1), 6);
         dueTrace("mark of grown", x, 21, 20);
-        due("mark of widow", x.ask(2, 1), 4);
-        dueTrace("mark of widow", x, 24, 21, 20);
-        due("mark of thief", x.ask(3, 1), 3 + 5 - 1000);
+        due("mark of thief", x.ask(2, 1), 2 + 5 - 1000);
         dueTrace("mark of thief", x, 22, 21, 20);
+        due("mark of widow", x.ask(3, 1), 6);
+        dueTrace("mark of widow", x, 24, 21, 20);
         due("mark of child", x.ask(4, 1), 4 - (24 - 100));
         dueTrace("mark of child", x, 23, 20, 13, 10);
         due("mark of bureau", x.ask(5, 1), 5 - 2 * (25 - 100));
