@@ -20,7 +20,10 @@ public final class BlueHue {
     private final Past past = new Past();
     /** What is foretold happens here, so that nothing of now becomes another. */
     private final Course probe = new Course();
-    /** A text is read into these, so that a FAULT leaves the LAND as it is. */
+    /**
+     * A text is read into these, so that a FAULT leaves the LAND as it is. Of the draft it tells where the hue is and how
+     * the WISHERS are told; no HOUR ever passes there, so all else is 0.
+     */
     private final Land draftLand = new Land();
     private final Course draft = new Course();
     private final Land[] imageLands = new Land[IMAGES];
@@ -621,7 +624,7 @@ public final class BlueHue {
         tape.expect('c');
         draftLand.places = tape.number(2, MOST);
         tape.expect(',');
-        draft.begin(tape.number(0, draftLand.places - 1));
+        draft.hue = tape.number(0, draftLand.places - 1);
         tape.expect(',');
         draftLand.hold = tape.number(0, 20);
         tape.expect(',');
@@ -836,7 +839,6 @@ public final class BlueHue {
         void begin() {
             at = 0;
             fault = 0;
-            faultAt = 0;
         }
 
         boolean goesOn() {
@@ -988,21 +990,6 @@ public final class BlueHue {
         /** What weigh() found last; it is no part of what is kept. */
         final int[] pull = new int[MOST];
 
-        void begin(int at) {
-            hour = 0;
-            hue = at;
-            went = 0;
-            halved = 0;
-            milk = 0;
-            rests = 0;
-            for (int i = 0; i < MOST; i++) {
-                kind[i] = WISHER;
-                aim[i] = 0;
-                strength[i] = 0;
-                tired[i] = 0;
-            }
-        }
-
         void take(Course other) {
             hour = other.hour;
             hue = other.hue;
@@ -1108,12 +1095,9 @@ public final class BlueHue {
 
         void tire(Land land) {
             for (int one = 0; one < land.wishers; one++) {
-                if (kind[one] == WIDOW) {
-                    tired[one] = 0;
-                } else if (wishes(land, one)) {
-                    tired[one] = Math.min(MOST_TIRED, tired[one] + land.tires);
-                } else {
-                    tired[one] = Math.max(0, tired[one] - 1);
+                int more = wishes(land, one) ? land.tires : -1;
+                if (kind[one] != WIDOW) {
+                    tired[one] = Math.max(0, Math.min(MOST_TIRED, tired[one] + more));
                 }
             }
         }
@@ -1141,7 +1125,6 @@ public final class BlueHue {
         }
 
         void forget() {
-            next = 0;
             kept = 0;
         }
 

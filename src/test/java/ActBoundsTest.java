@@ -83,6 +83,13 @@ public final class ActBoundsTest extends Bounds {
         refuse(STATE, "hours(1)", "hours(0)", "hours(25)");
     }
 
+    private static void hourIsOneMore() {
+        sentence(10, "HOUR is 1 more.");
+        on("<c2,0,20,0;k0,0,7,5,1;>");
+        run("count(4)", 0, "hours(1)", 0, "count(4)", 1, "hours(4)", 0, "count(4)", 5, "wisher(0,5)", 7, "hours(1)", 0, "count(4)", 6,
+                "wisher(0,5)", 0, "hours(5)", 0, "count(4)", 11, "wisher(0,5)", 7);
+    }
+
     private static void hoursThatAreGone() {
         sentence(10, "FULL: more than 999 would be gone.");
         on(SWING + " hours(24)*40 hours(15)");
@@ -347,6 +354,7 @@ public final class ActBoundsTest extends Bounds {
         oldestOfEachKind();
         latestFirst();
         manyHours();
+        hourIsOneMore();
         hoursThatAreGone();
         pulls();
         greatestPull();

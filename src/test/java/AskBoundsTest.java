@@ -159,6 +159,24 @@ public final class AskBoundsTest extends Bounds {
         refuse(BAD, "ask(0,0)", "ask(0,1)", "ask(0,2)");
     }
 
+    private static void askedOnce() {
+        sentence(32, "14 of BUREAUS: twice what 13 gives (asked once).");
+        on("<c2,0,20,0;w0,0,7,0,6;b0,0,40,0,6;>");
+        run("ask(1,0)", -120, "trace(0)", 14, "trace(1)", 13, "trace(2)", 10, "trace(3)", NONE);
+        sentence(32, "24 of WIDOWS: twice what 21 gives (asked once).");
+        on("<c2,0,20,0;b0,0,40,0,6;w0,0,7,0,6;>");
+        run("ask(1,1)", 2, "trace(0)", 24, "trace(1)", 21, "trace(2)", 20, "trace(3)", NONE);
+    }
+
+    private static void theFirst() {
+        sentence(33, "each of which leaves its number in THE TRACE as it begins (the first 16)");
+        // Six BODIES are the most that an ASK of these begins; so 16 bound nothing.
+        on(SORTS + " ask(3,0)");
+        run("trace(4)", 21, "trace(5)", 20, "trace(6)", NONE, "trace(15)", NONE, "trace(16)", NONE);
+        on(SORTS + " ask(3,0)*20");
+        run("trace(0)", 12, "trace(5)", 20, "trace(6)", NONE, "trace(15)", NONE, "trace(16)", NONE);
+    }
+
     private static void traces() {
         sentence(33, "Number i of THE TRACE; NONE.");
         tells("trace(0)", NONE);
@@ -168,7 +186,6 @@ public final class AskBoundsTest extends Bounds {
         for (int i = 0; i < 6; i++) {
             tells("trace(" + i + ")", widow[i]);
         }
-        // Six BODIES are the most that an ASK of these begins; so THE TRACE's own 16 bound nothing.
         for (int i : new int[] {-1, 6, 7, 15, 16, 17, MAX, MIN, MIN + 1}) {
             tells("trace(" + i + ")", NONE);
         }
@@ -244,6 +261,39 @@ public final class AskBoundsTest extends Bounds {
         run("copy(1,9,3,0,1)", -1000011, "status()", 1);
     }
 
+    private static void nothingElseChanges() {
+        sentence(35, "What is refused, or found, changes nothing but status().");
+        on(RICH);
+        refuse(BAD, "row(8,0,0)", "set(8,0,0)", "copy(0,0,8,0,0)", "drop(8)", "feed(256)", "hours(25)", "wish(0,0,41)", "rest(0,2)",
+                "wisher(0,6)", "place(4,0)", "far(0,4)", "ahead(61,0)", "comes(0,61)", "visits(61)", "fewest(0,25,0)", "hard(0,25)",
+                "stolen(0,61,1)", "seen(0,0,13,0)", "who(0,0,0,13)", "round(2)", "half(61)", "awake(11,0)", "drawn(61,1,0)", "image(2)",
+                "restore(2)", "kind(3)", "as(0,6)", "ask(0,2)", "count(10)");
+        refuse(STATE, "rest(2,1)", "restore(0)");
+        refuse(NULL, "set(3,0,0)", "copy(0,0,3,0,0)", "drop(3)", "seen(3,0,1,0)", "who(0,3,0,1)");
+        refuse(PLACE, "set(0,3,0)", "copy(0,3,0,0,1)", "seen(0,3,1,0)", "who(0,0,3,1)");
+        refuse(KIND, "as(0,2)");
+        refuse(SIZE, "row(0,0,-1)");
+        refuse(STORE, "copy(0,0,1,0,1)");
+        on("<c2,0,20,1;a0,0,7,0,6;> hours(24)*41 hours(15) image(0) row(0,0,2) drop(1) feed(99)*120");
+        refuse(FULL, "hours(1)", "feed(99)");
+    }
+
+    private static void nothingByForetelling() {
+        sentence(24, "======== 3 FORETOLD (nothing changes).");
+        on(RICH + " set(0,0,3)");
+        tells("ahead(60,0)", 3);
+        tells("comes(3,60)", 1);
+        tells("visits(60)", 12);
+        tells("fewest(3,24,1)", 2);
+        tells("hard(1,24)", 3);
+        tells("stolen(0,60,1)", 1);
+        tells("seen(0,0,1,0)", 4);
+        tells("who(0,0,0,1)", 62);
+        tells("half(60)", NONE);
+        tells("awake(10,0)", 1);
+        tells("drawn(0,1,0)", 2);
+    }
+
     private static void allCalls() {
         sentence(1, "An object is used for at most 512 calls after it has been made; what later calls answer is free.");
         int told = SWING.length() - 2 + 1;
@@ -265,11 +315,15 @@ public final class AskBoundsTest extends Bounds {
         takenAs();
         sizes();
         marks();
+        askedOnce();
+        theFirst();
         asksRefused();
         traces();
         counts();
         statuses();
         findingsInTime();
+        nothingElseChanges();
+        nothingByForetelling();
         allCalls();
         finish("AskBoundsTest");
     }

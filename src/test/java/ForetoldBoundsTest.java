@@ -312,10 +312,17 @@ public final class ForetoldBoundsTest extends Bounds {
         row = "<c2,0,5,0;r0,1;a0,1,0,0,6;> row(0,0,1) ";
         who(row + "set(0,0,1)", 1 << 5);
         who(row + "set(0,0,0)", 62 - (1 << 5));
-        // In HOUR 4 one grown, TIRED 4, is as strong as what holds it; all others are stronger.
-        row = "<c2,0,5,1;r0,1;a0,1,0,0,6;> hours(4) wish(0,1,12) row(0,0,1) ";
-        who(row + "set(0,0,0)", 1 << 1);
-        who(row + "set(0,0,1)", 62 - (1 << 1));
+        // In HOUR 4 one that is TIRED 4, and FAR 1, goes by more than 7: so much STRENGTH it takes of each KIND.
+        int[] least = {0, 13, 9, 9, 12, 0};
+        for (int strength = 0; strength <= 14; strength++) {
+            row = "<c2,0,5,1;r0,1;a0,1,0,0,6;> hours(4) wish(0,1," + strength + ") row(0,0,1) ";
+            int kinds = 0;
+            for (int kind = 1; kind <= 5; kind++) {
+                kinds |= strength >= least[kind] ? 1 << kind : 0;
+            }
+            who(row + "set(0,0,1)", kinds);
+            who(row + "set(0,0,0)", 62 - kinds);
+        }
     }
 
     private static void who(String setup, long kinds) {
@@ -440,6 +447,20 @@ public final class ForetoldBoundsTest extends Bounds {
                 "awake(0,0)", "awake(10,1)", "awake(-1,0)", "awake(11,0)", "awake(0,-1)", "awake(0,2)");
     }
 
+    private static void lowestTerms() {
+        sentence(26, "fractions, told as two numbers in lowest terms (0 is 0 by 1)");
+        awake(STILL, 5, 0, 1);
+        awake(SIX_ALIKE, 0, 0, 1);
+        awake(SIX_ALIKE, 2, 1, 15625);
+        awake(SIX_ALIKE, 3, 729, 1000000);
+        awake(SIX_ALIKE, 4, 64, 15625);
+        awake(SIX_ALIKE, 5, 1, 64);
+        awake(SIX_ALIKE, 10, 1, 1);
+        // Any one of six has it: 1 less 9 by 10 to the 6th.
+        awake("<c2,0,0,0;k0,1,40,0,1;k0,1,40,0,1;k0,1,40,0,1;k0,1,40,0,1;k0,1,40,0,1;k0,1,40,0,1;>", 1, 468559, 1000000);
+        awake("<c2,0,0,0;k0,1,40,0,1;k0,1,40,0,1;k0,1,40,0,1;k0,1,40,0,1;k0,1,40,0,1;k0,1,40,0,1;>", 5, 63, 64);
+    }
+
     private static void awake(String setup, int p, long above, long below) {
         on(setup);
         tells("awake(" + p + ",0)", above);
@@ -517,6 +538,7 @@ public final class ForetoldBoundsTest extends Bounds {
         round();
         half();
         awake();
+        lowestTerms();
         drawn();
         drawnRefused();
         finish("ForetoldBoundsTest");
