@@ -8,7 +8,7 @@ import java.util.LinkedHashMap;
 import java.util.Map;
 
 /**
- * What the tests of the document's bounds share. A test names a promise and a sentence of the document, tells how its
+ * What the tests of the document's sentences share. A test names a promise and a sentence of the document, tells how its
  * objects are made, and then which call is due to answer what, and what it leaves behind.
  *
  * Calls are told as text: "hours(2)"; "<c2,0,0,0;>" feeds these bytes and calls land(); "feed(99)*120" is done so often.
@@ -26,6 +26,10 @@ class Bounds {
     static final String RICH = EMPTY_TAPE + " feed(114)";
     /** Reads ITEMS: the hue stays where it is, so that a row of one ITEM tells it. */
     private static final String STILL = "c6,2,20,0;";
+    /** What a LAND will be, by all that foretells; of calls with a ROW, which leave another status(), none. */
+    private static final String[] FORETOLD = {"ahead(60,0)", "ahead(60,1)", "comes(0,60)", "comes(1,60)", "visits(60)", "fewest(0,24,1)",
+        "fewest(1,24,1)", "hard(0,24)", "stolen(0,30,24)", "stolen(1,30,24)", "round(0)", "round(1)", "half(60)", "awake(3,0)", "awake(3,1)",
+        "drawn(60,9,0)", "drawn(60,9,1)"};
     private static final int MOST_CALLS = 512;
 
     private static final Map<String, Method> FACE = new HashMap<>();
@@ -275,8 +279,9 @@ class Bounds {
             }
             seen.put("far(0," + place + ")", x.call("far(0," + place + ")"));
         }
-        seen.put("ahead(60,0)", x.call("ahead(60,0)"));
-        seen.put("ahead(60,1)", x.call("ahead(60,1)"));
+        for (String call : FORETOLD) {
+            seen.put(call, x.call(call));
+        }
     }
 
     private static void lookAtWishers(Subject x, Map<String, Long> seen, String ahead, int whats) {
